@@ -1,0 +1,33 @@
+/** Counts and prints the answers of one test class that are not the ones that are due. */
+final class Due {
+    private int asked = 0;
+    private int wrong = 0;
+
+    void is(String call, long got, long want) {
+        asked++;
+        if (got != want) {
+            wrong++;
+            System.out.println(call + " answered " + got + ", due is " + want);
+        }
+    }
+
+    void holds(String what, boolean is) {
+        is(what, is ? 1 : 0, 1);
+    }
+
+    void end() {
+        System.out.println(asked + " answers, " + wrong + " not as due");
+        if (wrong != 0) {
+            System.exit(1);
+        }
+    }
+
+    /** A name as the document tells it: its first letter lowest, 8 bits each. */
+    static long nameOf(String text) {
+        long name = 0;
+        for (int i = text.length() - 1; i >= 0; i--) {
+            name = name << 8 | text.charAt(i);
+        }
+        return name;
+    }
+}
