@@ -15,6 +15,10 @@ final class Due {
         is(what, is ? 1 : 0, 1);
     }
 
+    int asked() {
+        return asked;
+    }
+
     void end() {
         System.out.println(asked + " answers, " + wrong + " not as due");
         if (wrong != 0) {
