@@ -1,10 +1,5 @@
 /** Promises 1 to 8: a new object, and the calls of constants. */
 public final class ConstantsTest {
-    private static final String[][] NAMES = {
-        {"place", "road", "town", "river", "hill"},
-        {"to", "from", "near", "over", "under", "within", "beside"},
-        "a b c d e f g h i j k l m n o p q r s t u v w x y z".split(" ")
-    };
     private static final int[] NO_KINDS = {-1, 3, Integer.MIN_VALUE, Integer.MAX_VALUE};
 
     private static final Due due = new Due();
@@ -26,8 +21,8 @@ public final class ConstantsTest {
     private static void promise1NewObject() {
         RecordLabels x = new RecordLabels();
         for (int kind = 0; kind < 3; kind++) {
-            for (int code = 0; code < NAMES[kind].length; code++) {
-                due.is("new: code of " + NAMES[kind][code], x.code(kind, Due.nameOf(NAMES[kind][code])), code);
+            for (int code = 0; code < Names.size(kind); code++) {
+                due.is("new: code of " + Names.of(kind)[code], x.code(kind, Due.nameOf(Names.of(kind)[code])), code);
             }
             due.is("new: started " + kind, x.started(kind), 0);
             due.is("new: told to fail " + kind, x.fail(kind, false), 0);
@@ -74,10 +69,10 @@ public final class ConstantsTest {
     private static void promise3Name() {
         RecordLabels x = new RecordLabels();
         for (int kind = 0; kind < 3; kind++) {
-            for (int code = 0; code < NAMES[kind].length; code++) {
-                due.is("name " + kind + " " + code, x.name(kind, code), Due.nameOf(NAMES[kind][code]));
+            for (int code = 0; code < Names.size(kind); code++) {
+                due.is("name " + kind + " " + code, x.name(kind, code), Due.nameOf(Names.of(kind)[code]));
             }
-            due.is("name: behind the last of " + kind, x.name(kind, NAMES[kind].length), 0);
+            due.is("name: behind the last of " + kind, x.name(kind, Names.size(kind)), 0);
             due.is("name: below the first of " + kind, x.name(kind, -1), 0);
             due.is("name: greatest code of " + kind, x.name(kind, Integer.MAX_VALUE), 0);
             due.is("name: least code of " + kind, x.name(kind, Integer.MIN_VALUE), 0);
@@ -149,7 +144,7 @@ public final class ConstantsTest {
         ruled(x, "beside", 1, 0, 0);
         ruled(x, "beside", 1, 8, 8);
         for (int sign = 0; sign < 26; sign++) {
-            ruled(x, NAMES[2][sign], 2, 85, 85 ^ sign);
+            ruled(x, Names.of(2)[sign], 2, 85, 85 ^ sign);
         }
         ruled(x, "z", 2, -1, ~25L);
     }

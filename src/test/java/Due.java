@@ -2,12 +2,29 @@
 final class Due {
     private int asked = 0;
     private int wrong = 0;
+    private String sentence = "";
+    private int askedBeforeSentence = -1;
+
+    /** The sentence of the document that the answers from here on belong to. */
+    void sentence(String text) {
+        endSentence();
+        sentence = "[" + text + "] ";
+        askedBeforeSentence = asked;
+    }
+
+    /** A sentence without an answer is a test that tests nothing. */
+    private void endSentence() {
+        if (asked == askedBeforeSentence) {
+            wrong++;
+            System.out.println(sentence + "nothing was asked");
+        }
+    }
 
     void is(String call, long got, long want) {
         asked++;
         if (got != want) {
             wrong++;
-            System.out.println(call + " answered " + got + ", due is " + want);
+            System.out.println(sentence + call + " answered " + got + ", due is " + want);
         }
     }
 
@@ -20,6 +37,7 @@ final class Due {
     }
 
     void end() {
+        endSentence();
         System.out.println(asked + " answers, " + wrong + " not as due");
         if (wrong != 0) {
             System.exit(1);
