@@ -99,15 +99,22 @@ public final class RecordLabels {
             return EMPTY;
         }
 
+        private long nameOf(int constant) {
+            return has(constant) ? names[constant] : 0;
+        }
+
         private void exchange(int a, int b) {
-            if (!has(a) || !has(b)) {
-                return;
+            int first = constantOf(a);
+            int second = constantOf(b);
+            giveCode(first, b);
+            giveCode(second, a);
+        }
+
+        private void giveCode(int constant, int code) {
+            if (has(constant) && has(code)) {
+                constants[code] = constant;
+                codes[constant] = code;
             }
-            int constant = constants[a];
-            constants[a] = constants[b];
-            constants[b] = constant;
-            codes[constants[a]] = a;
-            codes[constants[b]] = b;
         }
 
         /** Starts the kind if no rule of it was asked before: DONE, START or NO_START. */
@@ -190,10 +197,7 @@ public final class RecordLabels {
 
     public long name(int kind, int code) {
         Kind k = kindNumbered(kind);
-        if (k == null || !k.has(code)) {
-            return 0;
-        }
-        return k.names[k.constants[code]];
+        return k == null ? 0 : k.nameOf(k.constantOf(code));
     }
 
     public int swap(int kind, int a, int b) {
@@ -380,8 +384,7 @@ public final class RecordLabels {
             draftOf(t, record);
             int v = fromCell(t, item, draft[item]);
             if (wrongItem(t) == RIGHT && s.holds(draft[LABEL]) && isFromTo(v, low, high)) {
-                foundRecords[foundSize] = record;
-                foundSize++;
+                keepFound(record);
             }
         }
         return foundSize;
@@ -586,5 +589,12 @@ public final class RecordLabels {
             return table == nodeTable ? MOST_WEIGHT : MOST_COST;
         }
         return nodeTable.size - 1;
+    }
+
+    private void keepFound(int record) {
+        if (foundSize < MOST_RECORDS) {
+            foundRecords[foundSize] = record;
+            foundSize++;
+        }
     }
 }
